@@ -210,6 +210,9 @@ public final class PromisesTest {
                 due.same("flat " + cost + " " + what, flats[cost][what], k.flat(cost, what));
             }
         }
+        due.same("text", 0, Due.text(k, 3, "over 5 1;over 7 1;under 2 1;under 1 1;"));
+        due.same("from", 2, k.flat(3, 0));
+        due.same("to", 5, k.flat(3, 1));
         k.does(2, 3, -9, 0);
         due.same("nearest to 0 of a flat without a least x", -4, k.flat(2, 2));
         refusesCosts("flat", cost -> k.flat(cost, 0));
@@ -237,6 +240,8 @@ public final class PromisesTest {
         due.same("slope", 3, k.slope(0, 4, 1));
         due.same("slope", 3, k.slope(0, 100000, 1));
         due.same("slope", -4, k.slope(0, -100000, 0));
+        due.same("slope", -3, k.slope(0, -2, 0));
+        due.same("slope", 3, k.slope(0, 5, 0));
         refusesCosts("slope", cost -> k.slope(cost, 100001, 0));
         due.is("what ahead of x", NO_SUCH, () -> k.slope(0, 100001, 2));
         due.is("what", NO_SUCH, () -> k.slope(0, 0, -1));
@@ -398,6 +403,9 @@ public final class PromisesTest {
         due.same("two like ones: below 0", -10, k.meet(0, 1));
         due.same("itself", 0, k.meet(0, 0));
         due.same("the farthest", -1000, k.meet(0, 2));
+        k.does(0, 2, 0, 5);
+        due.same("the farthest above", 1000, k.meet(0, 2));
+        k.undo();
         due.same("farther", NOWHERE, k.meet(0, 3));
         due.same("never", NOWHERE, k.meet(2, 3));
         k.does(0, 3, 2, 0);
@@ -416,6 +424,12 @@ public final class PromisesTest {
         due.same("from so much on any", 40, k.heaviest(0, 1, 52));
         due.same("weight 0", 0, k.heaviest(0, 1, 2));
         due.same("none", NONE, k.heaviest(0, 1, 1));
+        due.same("nor for nothing", NONE, k.heaviest(0, 1, 0));
+        SlopeKeeper u = with("kink 0 5;under 3 2;over -4 1;");
+        due.same("of 'under', for nothing", 0, u.heaviest(0, 1, 4));
+        due.same("of 'under'", 2, u.heaviest(0, 1, 10));
+        due.same("of 'over'", 0, u.heaviest(0, 2, 6));
+        due.same("of 'over'", 1, u.heaviest(0, 2, 10));
         due.same("most", 40, k.heaviest(0, 1, 100000000));
         refusesCosts("heaviest", cost -> k.heaviest(cost, 0, -1));
         due.is("no such step", NO_SUCH, () -> k.heaviest(0, 5, -1));
@@ -463,6 +477,7 @@ public final class PromisesTest {
         due.same("gap at the left end", 2200, k.gap(0, 3));
         due.same("alike by other steps", 1, k.alike(0, 2));
         due.same("not alike", 0, k.alike(0, 1));
+        due.same("gap at the right end", 7, with("over 499 7;").gap(0, 1));
         k.does(2, 7, 1, 0);
         due.same("not by so much", 0, k.alike(0, 2));
         due.same("gap", 1, k.gap(0, 2));
@@ -492,7 +507,7 @@ public final class PromisesTest {
         SlopeKeeper k = new SlopeKeeper();
         int[][] wrong = {
             {4, 5, 0, 0}, {-1, 5, 0, 0}, {0, 9, 0, 0}, {0, -1, 0, 0}, {0, 0, 501, 0}, {0, 0, -501, 0}, {0, 0, 0, 100}, {0, 0, 0, -1},
-            {0, 1, 501, 0}, {0, 1, 0, 100}, {0, 2, -501, 0}, {0, 2, 0, -1}, {0, 3, 501, 0}, {0, 3, -501, 0}, {0, 4, 100, 0},
+            {0, 1, 501, 0}, {0, 1, 0, 100}, {0, 1, -501, 0}, {0, 2, 501, 0}, {0, 2, -501, 0}, {0, 2, 0, -1}, {0, 3, 501, 0}, {0, 3, -501, 0}, {0, 4, 100, 0},
             {0, 4, -1, 0}, {0, 4, 0, 100}, {0, 4, 0, -1}, {0, 7, 1000, 0}, {0, 7, -1, 0}, {0, 8, 4, 0}, {0, 8, -1, 0}, {0, 8, 0, 0},
             {0, MIN, 0, 0}, {MAX, 0, 0, 0}, {0, 0, MIN, 0}, {0, 0, 0, MAX}, {2, 8, 2, 0},
         };
@@ -655,6 +670,25 @@ public final class PromisesTest {
             due.is("fits what " + what, NO_SUCH, () -> k.fits(0, what));
             due.is("look what " + what, NO_SUCH, () -> k.look(0, what));
         }
+        SlopeKeeper later = with("plus 30;rise;", "rise;");
+        due.same("a step for each", 0, Due.text(later, 0, "under 5 2;fall;over 3 1;"));
+        due.same("look at the first", 1, later.look(0, 1));
+        due.same("look at the last", 41, later.look(2, 1));
+        due.same("look at the last", 4, later.look(2, 0));
+        due.same("look at the first again", 1, later.look(0, 1));
+        SlopeKeeper full = with("", "under 3 99;".repeat(40));
+        due.same("weights of 4980", 0, Due.text(full, 0, "and 1;" + "under 3 99;".repeat(10) + "over 3 7;over 4 23;rise;"));
+        due.same("none that is too much", 28, full.fits(11, 0));
+        due.same("none is", 41, full.fits(12, 0));
+        due.same("all alike behind the rise", 1, full.look(11, 1));
+        full.takes(0, 13);
+        due.same("none that is too much is looked at", 28, full.look(11, 1));
+        due.same("from the kink on", 4, full.look(11, 0));
+        due.same("heaviest", 27, full.heaviest(0, 11, 0));
+        due.same("heaviest", 40, full.heaviest(0, 12, 0));
+        due.same("weights of 4977", 0, Due.text(full, 0, "and 1;" + "under 3 99;".repeat(10) + "under 3 20;over 3 7;"));
+        due.same("too much by the step itself", 31, full.fits(12, 0));
+        due.same("too much by the step itself", 30, full.heaviest(0, 12, 0));
         SlopeKeeper flat = with("under 10 3;fall;");
         due.same("all fit", 41, flat.fits(0, 0));
         due.same("nothing is unlike by them", 1, flat.look(0, 1));
@@ -673,9 +707,28 @@ public final class PromisesTest {
         due.is("n", ILLEGAL, () -> k.years(1, 21, 0));
         due.is("n", ILLEGAL, () -> k.years(1, -1, 0));
         due.is("n", ILLEGAL, () -> k.years(1, MAX, 0));
+        int[][] then = {{0, 1, 6}, {0, 1, 6}, {0, 1, 6}, {11, 2, 14}, {41, 3, 311}, {41, 3, 331}, {41, 4, 281}};
+        for (int n = 0; n < then.length; n++) {
+            for (int what = 0; what < 3; what++) {
+                due.same("years 1 " + n + " " + what, then[n][what], k.years(1, n, what));
+            }
+        }
         k.years(12345, 20, 0);
         due.same("nothing changes", 1, k.count(0));
         due.same("nothing changes", 6, k.at(0, 0));
+        due.same("40 steps", 0, Due.text(k, 0, "plus 1;".repeat(40)));
+        due.same("steps may be more", 48, k.years(1, 3, 2));
+        SlopeKeeper full = with("", "under 3 99;".repeat(40));
+        due.same("weights of 4999", 0, Due.text(full, 0, "and 1;" + "under 3 99;".repeat(10) + "under 3 49;"));
+        due.same("over -8 1", 11, full.years(1, 3, 0));
+        due.same("under 33 9 is left out", 2, full.years(1, 4, 1));
+        due.same("under 33 9 is left out, the drift is not", 5 * 4999 + 6, full.years(1, 5, 2));
+        full.does(0, 2, 3, 1);
+        due.same("over -8 1 is left out", 1, full.years(1, 3, 1));
+        SlopeKeeper edge = with("kink 500 1;" + "drift 500;".repeat(9));
+        due.same("ahead of the drift", 5305, edge.years(1, 4, 2));
+        due.same("the drift is left out", 5305, edge.years(1, 5, 2));
+        due.same("behind it", 5260, edge.years(1, 6, 2));
     }
 
     private static void image() {
@@ -705,12 +758,33 @@ public final class PromisesTest {
             k.forget();
             k.does(9, 0, 0, 0);
         }
+        restoresActsAndNotes();
         k.does(3, 7, 8, 0);
         k.image();
         k.undo();
         k.restore();
         due.same("in place of another one", 8, k.least(3));
         due.same("in place of another one", 0, k.count(0));
+    }
+
+    private static void restoresActsAndNotes() {
+        SlopeKeeper k = with("kink 0 5;", "plus 3;");
+        k.note(4, 20);
+        k.note(5, 25);
+        k.image();
+        k.undo();
+        k.undo();
+        k.does(3, 7, 8, 0);
+        k.does(2, 7, 8, 0);
+        k.forget();
+        k.note(4, 12);
+        k.note(7, 21);
+        due.same("restore", 1, k.restore() ? 1 : 0);
+        due.same("noted as it was", 5, k.fits(0, 1));
+        due.same("undo", 1, k.undo());
+        due.same("of cost 1", 0, k.count(1));
+        due.same("undo", 0, k.undo());
+        due.same("of cost 0", 0, k.count(0));
     }
 
     private static void tooMuch() {

@@ -8,6 +8,7 @@ public final class RoomTest {
     private static final Due due = new Due();
 
     public static void main(String[] args) {
+        grow();
         ThreadMXBean threads = (ThreadMXBean) ManagementFactory.getThreadMXBean();
         fill();
         long before = threads.getThreadAllocatedBytes(Thread.currentThread().getId());
@@ -22,6 +23,25 @@ public final class RoomTest {
         used = threads.getThreadAllocatedBytes(Thread.currentThread().getId()) - before;
         due.same("bytes of a hundred new ones: " + used + ", few enough", 1, used < ROOM / 10 ? 1 : 0);
         due.end();
+    }
+
+    /** A move parts the kink where the flat is: room for one more is due however many there are. */
+    private static void grow() {
+        SlopeKeeper keeper = new SlopeKeeper();
+        for (int i = 1; i <= 120; i++) {
+            if (keeper.count(0) == 39) {
+                int other = 2 + i / 38 % 2;
+                keeper.copy(other, 0);
+                keeper.text(0, 0);
+                keeper.does(0, 8, other, 0);
+            }
+            keeper.does(0, i == 1 ? 0 : 1, 3 * i - 400, 1);
+            due.same("kinks", i, keeper.flat(0, 3));
+            keeper.does(0, 4, 1, 0);
+            due.same("one is parted", i + 1, keeper.flat(0, 3));
+            due.same("weights", i + 1, keeper.flat(0, 4));
+            keeper.undo();
+        }
     }
 
     /** 4800 kinks of weight 1 in cost 2, by 'and' of 800 and those by 'and' of 40. */

@@ -44,6 +44,12 @@ public final class TextTest {
         fails("x;", 1, 0);
         fails("kinks 3 4;", 1, 0);
         fails("Kink 3 4;", 1, 0);
+        fails("risez;", 1, 0);
+        fails("arise;", 1, 0);
+        fails("plus 5/;", 1, 6);
+        fails("plus 5:;", 1, 6);
+        fails("rise`;", 1, 4);
+        fails("rise{;", 1, 4);
         fails("kin", 1, 0);
         fails(";", 1, 0);
         fails("  5;", 1, 2);
