@@ -3,7 +3,8 @@ import java.util.NoSuchElementException;
 
 /**
  * A keeper of convex costs. Each of four costs is a chain of steps; the curve that the steps make is kept by its
- * kinks, so that an answer never needs to go through all places.
+ * kinks, so that an answer never needs to go through all places. Of what was (acts, the image) the steps alone are
+ * kept, and the curve is made from them again.
  */
 public final class SlopeKeeper {
     public static final int NONE = -1;
@@ -58,28 +59,49 @@ public final class SlopeKeeper {
     private static final int REFUSED_ACTS = 1;
     private static final int REFUSED_NOTES = 2;
 
-    private final byte[] tape;
+    private byte[] tape;
     private int tapeSize;
     private int faultPlace;
     private final Reader reader;
     private final Bench bench;
-    private final StringBuilder teller;
-    private final Curve[] team;
+    private final Shelf shelf;
+    private final Trail trail;
+    private final Teller teller;
+    /** The seed, as the latest draw left it. */
+    private int drawn;
+    private final Walk one;
+    private final Walk two;
     private final long[] lookedValues;
     private final int[] unlike;
+    /** What the chains of now make: whatever changes a chain brings its curve up to it. */
+    private final Curve[] curves;
+    private final Curve[] team;
+    /** Where the steps of an act stand until it is known that they are not too much. */
+    private final Chain draft;
     private final State now;
     private State kept;
 
     public SlopeKeeper() {
-        tape = new byte[TAPE_ROOM];
+        tape = new byte[0];
         tapeSize = 0;
         faultPlace = NONE;
         reader = new Reader();
         bench = new Bench();
-        teller = new StringBuilder();
-        team = new Curve[COSTS];
+        shelf = new Shelf();
+        trail = new Trail();
+        teller = new Teller();
+        drawn = 0;
         lookedValues = new long[2 * LOOKED_X + 1];
         unlike = new int[2 * LOOKED_X + 1];
+        curves = new Curve[COSTS];
+        team = new Curve[COSTS];
+        for (int cost = 0; cost < COSTS; cost++) {
+            curves[cost] = new Curve();
+            team[cost] = curves[cost];
+        }
+        one = new Walk(curves[0]);
+        two = new Walk(curves[0]);
+        draft = new Chain();
         now = new State();
         kept = null;
     }
@@ -87,6 +109,9 @@ public final class SlopeKeeper {
     public int feed(int a, int b, int c, int d, int e) {
         if (tapeSize + FED_BYTES > TAPE_ROOM) {
             return NONE;
+        }
+        if (tape.length < TAPE_ROOM) {
+            tape = new byte[TAPE_ROOM];
         }
         feedFour(a);
         feedFour(b);
@@ -113,12 +138,12 @@ public final class SlopeKeeper {
         if (reader.fault != 0) {
             return refuseText(reader.fault, reader.faultAt);
         }
-        Chain chain = bench.build(readSteps());
-        if (chain == null) {
+        draftReadSteps();
+        if (!bench.build(draft)) {
             return refuseText(WOULD_BE_TOO_MUCH, reader.wordPlace(bench.failed));
         }
         faultPlace = NONE;
-        now.act(cost, chain);
+        become(cost);
         return 0;
     }
 
@@ -128,12 +153,11 @@ public final class SlopeKeeper {
         return fault;
     }
 
-    private Step[] readSteps() {
-        Step[] steps = new Step[reader.clauses];
-        for (int i = 0; i < steps.length; i++) {
-            steps[i] = newStep(reader.kinds[i], reader.firsts[i], reader.seconds[i]);
+    private void draftReadSteps() {
+        draft.clear();
+        for (int i = 0; i < reader.clauses && i < MOST_STEPS; i++) {
+            draft.insert(i, newStep(reader.kinds[i], reader.firsts[i], reader.seconds[i]));
         }
-        return steps;
     }
 
     public int fault() {
@@ -146,7 +170,7 @@ public final class SlopeKeeper {
             case 1:
             case 2:
             case 3:
-                return chainOf(what).size();
+                return chainOf(what).size;
             case 4:
                 return now.acts;
             case 5:
@@ -204,7 +228,7 @@ public final class SlopeKeeper {
     public int kink(int cost, int i, int what) throws NoSuchElementException {
         Curve curve = curveOf(cost);
         needSuch(i >= 0 && i < curve.kinks && (what == 0 || what == 1));
-        return what == 0 ? curve.places[i] : curve.weights[i];
+        return what == 0 ? curve.placeOf(i) : curve.weightOf(i);
     }
 
     public int slope(int cost, int x, int what) throws NoSuchElementException, IllegalArgumentException {
@@ -216,15 +240,17 @@ public final class SlopeKeeper {
 
     public int path(int cost, int x, int steps) throws NoSuchElementException, IllegalArgumentException {
         Chain chain = chainOf(cost);
-        needSuch(steps >= 0 && steps <= chain.size());
+        needSuch(steps >= 0 && steps <= chain.size);
         needX(x);
-        return chain.placeBehind(steps, x);
+        trail.lay(chain, bench);
+        return trail.placeBehind(steps, x);
     }
 
     public long paid(int cost, int x, int i) throws NoSuchElementException, IllegalArgumentException {
         Step step = stepOf(cost, i);
         needX(x);
-        return step.costAt(chainOf(cost).placeBehind(i + 1, x));
+        trail.lay(chainOf(cost), bench);
+        return bench.costBy(step, trail.placeBehind(i + 1, x));
     }
 
     public int off(int cost, int much, int what) throws NoSuchElementException, IllegalArgumentException {
@@ -264,10 +290,8 @@ public final class SlopeKeeper {
         gatherTwo(cost, other);
         needX(x);
         int slope = commonSlope(2, x);
-        Curve one = team[0];
-        Curve two = team[1];
-        int from = Math.max(one.lowEnd(slope), x - two.highEnd(slope));
-        int to = Math.min(one.highEnd(slope), x - two.lowEnd(slope));
+        int from = Math.max(team[0].lowEnd(slope), x - team[1].highEnd(slope));
+        int to = Math.min(team[0].highEnd(slope), x - team[1].lowEnd(slope));
         return clamp(0, from, to);
     }
 
@@ -332,12 +356,13 @@ public final class SlopeKeeper {
     public int stretch(int cost, int x) throws NoSuchElementException, IllegalArgumentException {
         Chain chain = chainOf(cost);
         needX(x);
-        return chain.wayTo(x);
+        trail.lay(chain, bench);
+        return trail.wayTo(x);
     }
 
     public int leads(int cost, int other, int what) throws NoSuchElementException {
-        Walk one = new Walk(curveOf(cost), -COMPARED_X);
-        Walk two = new Walk(curveOf(other), -COMPARED_X);
+        one.startAt(curveOf(cost), -COMPARED_X);
+        two.startAt(curveOf(other), -COMPARED_X);
         needSuch(what == 0 || what == 1);
         int many = 0;
         int first = NOWHERE;
@@ -364,8 +389,8 @@ public final class SlopeKeeper {
     }
 
     public int meet(int cost, int other) throws NoSuchElementException {
-        Walk one = new Walk(curveOf(cost), -MEETING_X);
-        Walk two = new Walk(curveOf(other), -MEETING_X);
+        one.startAt(curveOf(cost), -MEETING_X);
+        two.startAt(curveOf(other), -MEETING_X);
         int nearest = NOWHERE;
         for (int x = -MEETING_X; x <= MEETING_X; x++) {
             if (one.value == two.value && Math.abs(x) < Math.abs(nearest)) {
@@ -392,23 +417,23 @@ public final class SlopeKeeper {
 
     public long spared(int cost, int step) throws NoSuchElementException {
         stepOf(cost, step);
-        return sparedBy(chainOf(cost), step);
+        return sparedBy(chainOf(cost), curveOf(cost), step);
     }
 
-    private long sparedBy(Chain chain, int step) {
+    private long sparedBy(Chain chain, Curve curve, int step) {
         bench.standAhead(chain, step);
         if (!bench.goThrough(chain, step, LEFT_OUT)) {
             return NOT_SPARED;
         }
-        return chain.curve.bottom - bench.work.bottom;
+        return curve.bottom - bench.work.bottom;
     }
 
     public int dearest(int cost) throws NoSuchElementException {
         Chain chain = chainOf(cost);
         int dearest = NONE;
         long most = 0;
-        for (int i = 0; i < chain.size(); i++) {
-            long spared = sparedBy(chain, i);
+        for (int i = 0; i < chain.size; i++) {
+            long spared = sparedBy(chain, curveOf(cost), i);
             if (dearest == NONE || spared > most) {
                 dearest = i;
                 most = spared;
@@ -418,8 +443,8 @@ public final class SlopeKeeper {
     }
 
     public long gap(int cost, int other) throws NoSuchElementException {
-        Walk one = new Walk(curveOf(cost), -COMPARED_X);
-        Walk two = new Walk(curveOf(other), -COMPARED_X);
+        one.startAt(curveOf(cost), -COMPARED_X);
+        two.startAt(curveOf(other), -COMPARED_X);
         long widest = 0;
         for (int x = -COMPARED_X; x <= COMPARED_X; x++) {
             widest = Math.max(widest, Math.abs(one.value - two.value));
@@ -434,36 +459,30 @@ public final class SlopeKeeper {
     }
 
     public int told(int cost, int i) throws NoSuchElementException {
-        tell(chainOf(cost));
+        Chain chain = chainOf(cost);
+        teller.listenFor(i);
+        for (int k = 0; k < chain.size; k++) {
+            teller.putStep(chain.stepAt(k));
+        }
         if (i == NONE) {
-            return teller.length();
+            return teller.length;
         }
-        needSuch(i >= 0 && i < teller.length());
-        return teller.charAt(i);
-    }
-
-    private void tell(Chain chain) {
-        teller.setLength(0);
-        for (int i = 0; i < chain.size(); i++) {
-            Step step = chain.steps[i];
-            teller.append(wordOf(step.kind));
-            if (numbersOf(step.kind) >= 1) {
-                teller.append(' ');
-                teller.append(step.first);
-            }
-            if (numbersOf(step.kind) == 2) {
-                teller.append(' ');
-                teller.append(step.second);
-            }
-            teller.append(';');
-        }
+        needSuch(i >= 0 && i < teller.length);
+        return teller.heard;
     }
 
     public int does(int cost, int kind, int a, int b) {
         if (!isTellable(cost, kind, a, b)) {
             return refuseAct();
         }
-        return become(cost, bench.extend(chainOf(cost), newStep(kind, a, b)));
+        Step step = newStep(kind, a, b);
+        bench.startWith(curveOf(cost));
+        if (!bench.applyStep(step)) {
+            return refuseAct();
+        }
+        draft.take(chainOf(cost));
+        draft.insert(draft.size, step);
+        return become(cost);
     }
 
     public int puts(int cost, int i, int kind, int a, int b) {
@@ -471,10 +490,12 @@ public final class SlopeKeeper {
             return refuseAct();
         }
         Chain chain = chainOf(cost);
-        if (i < 0 || i > chain.size()) {
+        if (i < 0 || i > chain.size) {
             return refuseAct();
         }
-        return become(cost, bench.build(chain.stepsWith(i, newStep(kind, a, b))));
+        draft.take(chain);
+        draft.insert(i, newStep(kind, a, b));
+        return becomeUnlessTooMuch(cost);
     }
 
     public int takes(int cost, int i) {
@@ -482,33 +503,39 @@ public final class SlopeKeeper {
             return refuseAct();
         }
         Chain chain = chainOf(cost);
-        if (i < 0 || i >= chain.size()) {
+        if (i < 0 || i >= chain.size) {
             return refuseAct();
         }
-        return become(cost, bench.build(chain.stepsWithout(i)));
+        draft.take(chain);
+        draft.remove(i);
+        return becomeUnlessTooMuch(cost);
     }
 
     public int copy(int cost, int other) {
         if (!isCost(cost) || !isCost(other) || cost == other || chainOf(other).hasOnTop(cost)) {
             return refuseAct();
         }
-        return become(cost, chainOf(other));
+        draft.take(chainOf(other));
+        bench.startWith(curveOf(other));
+        return become(cost);
     }
 
     private boolean isTellable(int cost, int kind, int a, int b) {
         if (!isCost(cost) || !isKind(kind) || !areNumbersOf(kind, a, b)) {
             return false;
         }
-        return !(kind == AND && a == cost) && chainOf(cost).size() < MOST_STEPS;
+        return !(kind == AND && a == cost) && chainOf(cost).size < MOST_STEPS;
     }
 
-    /** No chain means that it would be too much. */
-    private int become(int cost, Chain chain) {
-        if (chain == null) {
-            return refuseAct();
-        }
-        now.act(cost, chain);
-        return chain.size();
+    private int becomeUnlessTooMuch(int cost) {
+        return bench.build(draft) ? become(cost) : refuseAct();
+    }
+
+    /** The draft becomes the cost's steps; the bench holds the curve that they make. */
+    private int become(int cost) {
+        now.act(cost, draft);
+        curveOf(cost).take(bench.work);
+        return draft.size;
     }
 
     private int refuseAct() {
@@ -517,7 +544,18 @@ public final class SlopeKeeper {
     }
 
     public int undo() {
-        return now.takeBack() ? now.acts : NONE;
+        int cost = now.takeBack();
+        if (cost == NONE) {
+            return NONE;
+        }
+        makeCurve(cost);
+        return now.acts;
+    }
+
+    /** From steps that have made it before, so that none of them is too much. */
+    private void makeCurve(int cost) {
+        bench.build(chainOf(cost));
+        curveOf(cost).take(bench.work);
     }
 
     public int note(int x, long v) {
@@ -568,13 +606,13 @@ public final class SlopeKeeper {
 
     /** A greater weight never costs less at any place, so that like values come one right behind the other. */
     private void lookAlong(Curve curve) {
-        Walk walk = new Walk(curve, -LOOKED_X);
+        one.startAt(curve, -LOOKED_X);
         for (int i = 0; i < unlike.length && i < lookedValues.length; i++) {
-            if (unlike[i] == 0 || lookedValues[i] != walk.value) {
+            if (unlike[i] == 0 || lookedValues[i] != one.value) {
                 unlike[i]++;
-                lookedValues[i] = walk.value;
+                lookedValues[i] = one.value;
             }
-            walk.goOn();
+            one.goOn();
         }
     }
 
@@ -589,10 +627,10 @@ public final class SlopeKeeper {
     public long years(int seed, int n, int what) throws NoSuchElementException, IllegalArgumentException {
         needSuch(what >= 0 && what <= 2);
         needFit(n >= 0 && n <= MOST_YEARS);
-        Dice dice = new Dice(seed);
+        drawn = seed;
         bench.startWith(curveOf(0));
         for (int year = 0; year < n; year++) {
-            liveYear(dice);
+            liveYear();
         }
         if (what == 0) {
             return bench.work.bottom;
@@ -600,29 +638,34 @@ public final class SlopeKeeper {
         return what == 1 ? bench.work.kinks : bench.work.valueAt(0);
     }
 
-    private void liveYear(Dice dice) {
-        int drawn = dice.draw(8);
+    private void liveYear() {
+        int year = draw(8);
         int kind;
         int first = 0;
         int second = 0;
-        if (drawn <= 3) {
-            kind = Math.min(drawn, UNDER);
-            first = dice.draw(101) - 50;
-            second = dice.draw(10);
-        } else if (drawn == 4) {
+        if (year <= 3) {
+            kind = Math.min(year, UNDER);
+            first = draw(101) - 50;
+            second = draw(10);
+        } else if (year == 4) {
             kind = DRIFT;
-            first = dice.draw(21) - 10;
-        } else if (drawn == 5) {
+            first = draw(21) - 10;
+        } else if (year == 5) {
             kind = MOVE;
-            first = dice.draw(6);
-            second = dice.draw(6);
-        } else if (drawn == 6) {
+            first = draw(6);
+            second = draw(6);
+        } else if (year == 6) {
             kind = RISE;
         } else {
             kind = PLUS;
-            first = dice.draw(10);
+            first = draw(10);
         }
         bench.applyIfNotTooMuch(kind, first, second);
+    }
+
+    private int draw(int n) {
+        drawn = drawn * 1103515245 + 12345;
+        return n < 1 ? 0 : (drawn >>> 16 & 0x7fff) % n;
     }
 
     public void image() {
@@ -637,6 +680,9 @@ public final class SlopeKeeper {
             return false;
         }
         now.take(kept);
+        for (int cost = 0; cost < COSTS; cost++) {
+            makeCurve(cost);
+        }
         return true;
     }
 
@@ -678,20 +724,21 @@ public final class SlopeKeeper {
     }
 
     private Curve curveOf(int cost) {
-        return chainOf(cost).curve;
+        needCost(cost);
+        return curves[cost];
     }
 
     private Step stepOf(int cost, int i) {
-        Chain chain = chainOf(cost);
-        needSuch(i >= 0 && i < chain.size());
-        return chain.steps[i];
+        Step step = chainOf(cost).stepAt(i);
+        needSuch(step != null);
+        return step;
     }
 
     /** What the step has no number for is kept as 0, whatever was told. */
     private Step newStep(int kind, int a, int b) {
         int first = numbersOf(kind) >= 1 ? a : 0;
         int second = numbersOf(kind) == 2 ? b : 0;
-        return new Step(kind, first, second, kind == AND ? curveOf(first) : null);
+        return new Step(kind, first, second, kind == AND ? shelf.keep(curveOf(first)) : null);
     }
 
     private static boolean areNumbersOf(int kind, int a, int b) {
@@ -748,35 +795,48 @@ public final class SlopeKeeper {
      * others make it rise: this and the least value tell all of it.
      */
     private static final class Curve {
+        private static final int FIRST_ROOM = 48;
+        private static final int SECOND_ROOM = 480;
+        /** A kink weighs at least 1, and a move may part one of them. */
+        private static final int WHOLE_ROOM = MOST_WEIGHT + 1;
+        /** Enough for all weights together. */
+        private static final int WEIGHT_BITS = 13;
+        private static final int WEIGHT_MASK = (1 << WEIGHT_BITS) - 1;
+
         int kinks;
-        int[] places;
-        int[] weights;
+        /** Of each kink its place and, in the lowest bits, its weight. */
+        private int[] row;
         /** How many units of weight make it fall: on the far left its slope is this below 0. */
         int left;
         int total;
         long bottom;
 
-        Curve(int room) {
-            int length = Math.max(room, 0);
-            places = new int[length];
-            weights = new int[length];
+        Curve() {
+            row = new int[0];
             kinks = 0;
             left = 0;
             total = 0;
             bottom = 0;
         }
 
-        /** Nothing but 0 is left, with room for so many kinks. */
+        /** Nothing but 0 is left, with room for so many kinks; few rooms, as each makes a new row. */
         void clear(int room) {
-            if (room > places.length) {
-                int length = Math.max(room, 2 * places.length);
-                places = new int[length];
-                weights = new int[length];
+            if (room > row.length) {
+                int more = room > FIRST_ROOM ? SECOND_ROOM : FIRST_ROOM;
+                row = new int[room > more ? WHOLE_ROOM : more];
             }
             kinks = 0;
             left = 0;
             total = 0;
             bottom = 0;
+        }
+
+        int placeOf(int i) {
+            return i >= 0 && i < row.length ? row[i] >> WEIGHT_BITS : 0;
+        }
+
+        int weightOf(int i) {
+            return i >= 0 && i < row.length ? row[i] & WEIGHT_MASK : 0;
         }
 
         /** Places must come rising; like ones become one kink. */
@@ -784,12 +844,11 @@ public final class SlopeKeeper {
             if (weight <= 0) {
                 return;
             }
-            if (kinks > 0 && kinks <= places.length && places[kinks - 1] == place) {
-                weights[kinks - 1] += weight;
+            if (kinks > 0 && kinks <= row.length && placeOf(kinks - 1) == place) {
+                row[kinks - 1] += weight;
                 total += weight;
-            } else if (kinks < places.length) {
-                places[kinks] = place;
-                weights[kinks] = weight;
+            } else if (kinks < row.length) {
+                row[kinks] = (place << WEIGHT_BITS) + weight;
                 kinks++;
                 total += weight;
             }
@@ -803,28 +862,22 @@ public final class SlopeKeeper {
 
         void take(Curve other) {
             clear(other.kinks);
-            System.arraycopy(other.places, 0, places, 0, other.kinks);
-            System.arraycopy(other.weights, 0, weights, 0, other.kinks);
+            System.arraycopy(other.row, 0, row, 0, other.kinks);
             kinks = other.kinks;
             left = other.left;
             total = other.total;
             bottom = other.bottom;
         }
 
-        Curve keepsake() {
-            Curve same = new Curve(kinks);
-            same.take(this);
-            return same;
-        }
-
         long valueAt(int x) {
             long value = bottom;
             int falling = left;
             for (int i = 0; i < kinks; i++) {
-                int share = Math.min(falling, weights[i]);
+                int weight = weightOf(i);
+                int share = Math.min(falling, weight);
                 falling -= share;
-                long above = (long) x - places[i];
-                value += above < 0 ? -above * share : above * (weights[i] - share);
+                long above = (long) x - placeOf(i);
+                value += above < 0 ? -above * share : above * (weight - share);
             }
             return value;
         }
@@ -832,15 +885,15 @@ public final class SlopeKeeper {
         /** The slope from x to the place behind it. */
         int slopeBehind(int x) {
             int slope = -left;
-            for (int i = 0; i < kinks && places[i] <= x; i++) {
-                slope += weights[i];
+            for (int i = 0; i < kinks && placeOf(i) <= x; i++) {
+                slope += weightOf(i);
             }
             return slope;
         }
 
         int kinksUpTo(int x) {
             int many = 0;
-            while (many < kinks && places[many] <= x) {
+            while (many < kinks && placeOf(many) <= x) {
                 many++;
             }
             return many;
@@ -853,9 +906,9 @@ public final class SlopeKeeper {
             }
             int rest = unit;
             for (int i = 0; i < kinks; i++) {
-                rest -= weights[i];
+                rest -= weightOf(i);
                 if (rest <= 0) {
-                    return places[i];
+                    return placeOf(i);
                 }
             }
             return FAR;
@@ -879,9 +932,9 @@ public final class SlopeKeeper {
         int someLowest() {
             int rest = left;
             for (int i = 0; i < kinks; i++) {
-                rest -= weights[i];
+                rest -= weightOf(i);
                 if (rest <= 0) {
-                    return places[i];
+                    return placeOf(i);
                 }
             }
             return 0;
@@ -891,7 +944,7 @@ public final class SlopeKeeper {
             if (total > MOST_WEIGHT || bottom > MOST_LEAST) {
                 return true;
             }
-            return kinks > 0 && (places[0] < -FARTHEST_KINK || places[kinks - 1] > FARTHEST_KINK);
+            return kinks > 0 && (placeOf(0) < -FARTHEST_KINK || placeOf(kinks - 1) > FARTHEST_KINK);
         }
 
         boolean isSameAs(Curve other) {
@@ -899,7 +952,7 @@ public final class SlopeKeeper {
                 return false;
             }
             for (int i = 0; i < kinks; i++) {
-                if (places[i] != other.places[i] || weights[i] != other.weights[i]) {
+                if (placeOf(i) != other.placeOf(i) || weightOf(i) != other.weightOf(i)) {
                     return false;
                 }
             }
@@ -909,15 +962,19 @@ public final class SlopeKeeper {
 
     /** Goes along a curve place by place, without a new sum over all kinks at each. */
     private static final class Walk {
-        private final Curve curve;
+        private Curve curve;
         private int x;
         private int slope;
         private int passed;
         long value;
 
-        Walk(Curve curve, int x) {
+        Walk(Curve curve) {
             this.curve = curve;
-            this.x = x;
+        }
+
+        void startAt(Curve along, int from) {
+            curve = along;
+            x = from;
             slope = curve.slopeBehind(x);
             passed = curve.kinksUpTo(x);
             value = curve.valueAt(x);
@@ -926,10 +983,123 @@ public final class SlopeKeeper {
         void goOn() {
             value += slope;
             x++;
-            if (passed < curve.kinks && curve.places[passed] == x) {
-                slope += curve.weights[passed];
+            if (passed < curve.kinks && curve.placeOf(passed) == x) {
+                slope += curve.weightOf(passed);
                 passed++;
             }
+        }
+    }
+
+    /**
+     * A curve that never changes, in few elements: from its first kink on a bit 1 for each unit of weight, and a bit
+     * 0 for each place by which one goes on.
+     */
+    private static final class Keepsake {
+        private final int kinks;
+        private final int first;
+        private final int left;
+        private final long bottom;
+        final long[] bits;
+        /** The one that was made before this one; null for the first. */
+        final Keepsake older;
+
+        Keepsake(Curve curve, long[] bits, Keepsake older) {
+            kinks = curve.kinks;
+            first = curve.placeOf(0);
+            left = curve.left;
+            bottom = curve.bottom;
+            this.bits = bits;
+            this.older = older;
+        }
+
+        /** Whether it is this curve, if its bits are. */
+        boolean isBeside(Curve curve) {
+            return first == curve.placeOf(0) && left == curve.left && bottom == curve.bottom;
+        }
+
+        void showOn(Curve curve) {
+            curve.clear(kinks);
+            int place = first;
+            for (int i = 0; i < bits.length; i++) {
+                long word = bits[i];
+                for (int bit = 0; bit < Shelf.WORD_BITS && word != 0; bit++) {
+                    if ((word >>> bit & 1) == 1) {
+                        curve.append(place, 1);
+                    } else {
+                        place++;
+                    }
+                }
+                place += word == 0 ? Shelf.WORD_BITS : 0;
+            }
+            curve.left = left;
+            curve.bottom = bottom;
+        }
+    }
+
+    /** Makes keepsakes. Of like ones there is one, and what differs by a drift or a plus alone has one row of bits. */
+    private static final class Shelf {
+        static final int WORD_BITS = 64;
+        private static final int MOST_BITS = 2 * FARTHEST_KINK + MOST_WEIGHT;
+        private static final int MOST_WORDS = (MOST_BITS + WORD_BITS - 1) / WORD_BITS;
+
+        private long[] written;
+        private int words;
+        private Keepsake newest;
+
+        Shelf() {
+            written = new long[0];
+            words = 0;
+            newest = null;
+        }
+
+        Keepsake keep(Curve curve) {
+            write(curve);
+            long[] bits = null;
+            for (Keepsake made = newest; made != null; made = made.older) {
+                if (isWritten(made.bits)) {
+                    if (made.isBeside(curve)) {
+                        return made;
+                    }
+                    bits = made.bits;
+                }
+            }
+            newest = new Keepsake(curve, bits == null ? Arrays.copyOf(written, words) : bits, newest);
+            return newest;
+        }
+
+        private void write(Curve curve) {
+            if (written.length < MOST_WORDS) {
+                written = new long[MOST_WORDS];
+            }
+            Arrays.fill(written, 0);
+            int at = 0;
+            for (int i = 0; i < curve.kinks; i++) {
+                at += i == 0 ? 0 : curve.placeOf(i) - curve.placeOf(i - 1);
+                writeUnits(at, curve.weightOf(i));
+                at += curve.weightOf(i);
+            }
+            words = Math.min((at + WORD_BITS - 1) / WORD_BITS, written.length);
+        }
+
+        private void writeUnits(int from, int many) {
+            for (int at = from; at < from + many; at++) {
+                int word = at / WORD_BITS;
+                if (word >= 0 && word < written.length) {
+                    written[word] |= 1L << at % WORD_BITS;
+                }
+            }
+        }
+
+        private boolean isWritten(long[] bits) {
+            if (bits.length != words) {
+                return false;
+            }
+            for (int i = 0; i < words; i++) {
+                if (bits[i] != written[i]) {
+                    return false;
+                }
+            }
+            return true;
         }
     }
 
@@ -938,55 +1108,116 @@ public final class SlopeKeeper {
         final int first;
         final int second;
         /** Of 'and' the other cost as it was when this was told; null for all other kinds. */
-        final Curve onTop;
+        final Keepsake onTop;
 
-        Step(int kind, int first, int second, Curve onTop) {
+        Step(int kind, int first, int second, Keepsake onTop) {
             this.kind = kind;
             this.first = first;
             this.second = second;
             this.onTop = onTop;
         }
+    }
 
-        long costAt(int x) {
-            switch (kind) {
-                case KINK:
-                    return (long) second * Math.abs(x - first);
-                case OVER:
-                    return (long) second * Math.max(x - first, 0);
-                case UNDER:
-                    return (long) second * Math.max(first - x, 0);
-                case PLUS:
-                    return first;
-                case AND:
-                    return onTop == null ? 0 : onTop.valueAt(x);
-                default:
-                    return 0;
+    /** A row of steps, made once and used again: one chain takes from another what never changes, the steps. */
+    private static final class Chain {
+        private Step[] steps;
+        int size;
+
+        Chain() {
+            steps = new Step[0];
+            size = 0;
+        }
+
+        /** Null, if there is none. */
+        Step stepAt(int i) {
+            return i >= 0 && i < size && i < steps.length ? steps[i] : null;
+        }
+
+        void clear() {
+            size = 0;
+        }
+
+        void take(Chain other) {
+            makeRoom(other.size);
+            size = Math.min(other.size, steps.length);
+            for (int i = 0; i < size; i++) {
+                steps[i] = other.stepAt(i);
             }
+        }
+
+        void insert(int place, Step step) {
+            makeRoom(size + 1);
+            if (place < 0 || place > size || size >= steps.length) {
+                return;
+            }
+            for (int i = size; i > place; i--) {
+                steps[i] = steps[i - 1];
+            }
+            steps[place] = step;
+            size++;
+        }
+
+        void remove(int place) {
+            if (place < 0 || place >= size) {
+                return;
+            }
+            size--;
+            for (int i = place; i < size; i++) {
+                steps[i] = steps[i + 1];
+            }
+        }
+
+        private void makeRoom(int room) {
+            if (room <= steps.length || steps.length >= MOST_STEPS) {
+                return;
+            }
+            Step[] more = new Step[MOST_STEPS];
+            for (int i = 0; i < size && i < steps.length; i++) {
+                more[i] = steps[i];
+            }
+            steps = more;
+        }
+
+        boolean hasOnTop(int cost) {
+            for (int i = 0; i < size; i++) {
+                Step step = stepAt(i);
+                if (step != null && step.kind == AND && step.first == cost) {
+                    return true;
+                }
+            }
+            return false;
         }
     }
 
-    /** Steps with the curve that they make. It never changes, so that acts, images and copies may share it. */
-    private static final class Chain {
-        final Step[] steps;
+    /** The way back through the steps of a chain. */
+    private static final class Trail {
+        private Chain chain;
         /** Ahead of each step the ends of the flat: of all that was there, a path needs no more. */
         private final int[] flatFrom;
         private final int[] flatTo;
-        final Curve curve;
 
-        Chain(Step[] steps, int[] flatFrom, int[] flatTo, Curve curve) {
-            this.steps = steps;
-            this.flatFrom = flatFrom;
-            this.flatTo = flatTo;
-            this.curve = curve;
+        Trail() {
+            chain = new Chain();
+            flatFrom = new int[MOST_STEPS];
+            flatTo = new int[MOST_STEPS];
         }
 
-        int size() {
-            return steps.length;
+        void lay(Chain along, Bench bench) {
+            chain = along;
+            bench.startAnew();
+            for (int i = 0; i < chain.size && i < MOST_STEPS; i++) {
+                flatFrom[i] = bench.work.lowEnd(0);
+                flatTo[i] = bench.work.highEnd(0);
+                bench.applyStep(chain.stepAt(i));
+            }
         }
 
         /** Where one was ahead of the i-th step, if one is at x behind it. */
         private int placeAhead(int i, int x) {
-            Step step = steps[i];
+            Step step = chain.stepAt(i);
+            if (step == null || i < 0 || i >= MOST_STEPS) {
+                return x;
+            }
             switch (step.kind) {
                 case DRIFT:
                     return x - step.first;
@@ -1003,7 +1234,7 @@ public final class SlopeKeeper {
 
         int placeBehind(int many, int end) {
             int x = end;
-            for (int i = steps.length - 1; i >= 0 && i >= many; i--) {
+            for (int i = chain.size - 1; i >= 0 && i >= many; i--) {
                 x = placeAhead(i, x);
             }
             return x;
@@ -1012,110 +1243,58 @@ public final class SlopeKeeper {
         int wayTo(int end) {
             int way = 0;
             int x = end;
-            for (int i = steps.length - 1; i >= 0; i--) {
+            for (int i = chain.size - 1; i >= 0; i--) {
                 int ahead = placeAhead(i, x);
                 way += Math.abs(x - ahead);
                 x = ahead;
             }
             return way;
         }
-
-        boolean hasOnTop(int cost) {
-            for (int i = 0; i < steps.length; i++) {
-                if (steps[i].kind == AND && steps[i].first == cost) {
-                    return true;
-                }
-            }
-            return false;
-        }
-
-        Step[] stepsWith(int place, Step step) {
-            Step[] more = new Step[steps.length + 1];
-            for (int i = 0; i < more.length; i++) {
-                if (i == place || i > steps.length) {
-                    more[i] = step;
-                } else {
-                    more[i] = i < place ? steps[i] : steps[i - 1];
-                }
-            }
-            return more;
-        }
-
-        Step[] stepsWithout(int place) {
-            Step[] fewer = new Step[Math.max(steps.length - 1, 0)];
-            for (int i = 0; i < fewer.length; i++) {
-                fewer[i] = i < place ? steps[i] : steps[i + 1];
-            }
-            return fewer;
-        }
     }
 
     /** Where curves are made, step by step, in rows that are used again for each. */
     private static final class Bench {
-        private static final int FIRST_ROOM = 48;
-
         Curve work;
         private Curve spare;
         private final Curve base;
-        private final Curve single;
-        private final int[] flatFrom;
-        private final int[] flatTo;
+        private final Curve added;
         /** The step by which the latest chain that was to be built would have been too much. */
         int failed;
 
         Bench() {
-            work = new Curve(FIRST_ROOM);
-            spare = new Curve(FIRST_ROOM);
-            base = new Curve(FIRST_ROOM);
-            single = new Curve(1);
-            flatFrom = new int[MOST_STEPS];
-            flatTo = new int[MOST_STEPS];
+            work = new Curve();
+            spare = new Curve();
+            base = new Curve();
+            added = new Curve();
             failed = NONE;
+        }
+
+        void startAnew() {
+            work.clear(0);
         }
 
         void startWith(Curve curve) {
             work.take(curve);
         }
 
-        /** Null, if a step would be too much. */
-        Chain build(Step[] steps) {
+        /** False, if a step would be too much. */
+        boolean build(Chain chain) {
             failed = NONE;
-            work.clear(0);
-            for (int i = 0; i < steps.length && i < MOST_STEPS; i++) {
-                flatFrom[i] = work.lowEnd(0);
-                flatTo[i] = work.highEnd(0);
-                if (!applyStep(steps[i])) {
+            startAnew();
+            for (int i = 0; i < chain.size; i++) {
+                if (!applyStep(chain.stepAt(i))) {
                     failed = i;
-                    return null;
+                    return false;
                 }
             }
-            return finished(steps);
-        }
-
-        /** Null, if the step would be too much. */
-        Chain extend(Chain chain, Step step) {
-            int size = chain.size();
-            if (size >= MOST_STEPS) {
-                return null;
-            }
-            System.arraycopy(chain.flatFrom, 0, flatFrom, 0, size);
-            System.arraycopy(chain.flatTo, 0, flatTo, 0, size);
-            work.take(chain.curve);
-            flatFrom[size] = work.lowEnd(0);
-            flatTo[size] = work.highEnd(0);
-            return applyStep(step) ? finished(chain.stepsWith(size, step)) : null;
-        }
-
-        private Chain finished(Step[] steps) {
-            int size = Math.min(steps.length, MOST_STEPS);
-            return new Chain(steps, Arrays.copyOf(flatFrom, size), Arrays.copyOf(flatTo, size), work.keepsake());
+            return true;
         }
 
         /** The base becomes what was ahead of the step. */
         void standAhead(Chain chain, int step) {
-            work.clear(0);
-            for (int i = 0; i < step && i < chain.size(); i++) {
-                applyStep(chain.steps[i]);
+            startAnew();
+            for (int i = 0; i < step && i < chain.size; i++) {
+                applyStep(chain.stepAt(i));
             }
             base.take(work);
         }
@@ -1123,19 +1302,45 @@ public final class SlopeKeeper {
         /** From the base on through the step, with this weight or LEFT_OUT, and all others; false: too much. */
         boolean goThrough(Chain chain, int step, int weight) {
             work.take(base);
-            if (step < 0 || step >= chain.size()) {
+            Step changed = chain.stepAt(step);
+            if (changed == null) {
                 return false;
             }
-            Step changed = chain.steps[step];
             if (weight != LEFT_OUT && !apply(changed.kind, changed.first, weight, null)) {
                 return false;
             }
-            for (int i = step + 1; i < chain.size(); i++) {
-                if (!applyStep(chain.steps[i])) {
+            for (int i = step + 1; i < chain.size; i++) {
+                if (!applyStep(chain.stepAt(i))) {
                     return false;
                 }
             }
             return true;
+        }
+
+        /** What the step adds at x. */
+        long costBy(Step step, int x) {
+            switch (step.kind) {
+                case KINK:
+                    return (long) step.second * Math.abs(x - step.first);
+                case OVER:
+                    return (long) step.second * Math.max(x - step.first, 0);
+                case UNDER:
+                    return (long) step.second * Math.max(step.first - x, 0);
+                case PLUS:
+                    return step.first;
+                case AND:
+                    return costOnTop(step.onTop, x);
+                default:
+                    return 0;
+            }
+        }
+
+        private long costOnTop(Keepsake onTop, int x) {
+            if (onTop == null) {
+                return 0;
+            }
+            onTop.showOn(added);
+            return added.valueAt(x);
         }
 
         void applyIfNotTooMuch(int kind, int first, int second) {
@@ -1145,22 +1350,22 @@ public final class SlopeKeeper {
             }
         }
 
-        private boolean applyStep(Step step) {
-            return apply(step.kind, step.first, step.second, step.onTop);
+        /** False, if it is too much; what the work is then is of no use. */
+        boolean applyStep(Step step) {
+            return step != null && apply(step.kind, step.first, step.second, step.onTop);
         }
 
-        /** False, if it is too much; what the work is then is of no use. */
-        private boolean apply(int kind, int first, int second, Curve onTop) {
+        private boolean apply(int kind, int first, int second, Keepsake onTop) {
             switch (kind) {
                 case KINK:
-                    single.becomeKink(first, 2 * second, second);
-                    return add(single);
+                    added.becomeKink(first, 2 * second, second);
+                    return add();
                 case OVER:
-                    single.becomeKink(first, second, 0);
-                    return add(single);
+                    added.becomeKink(first, second, 0);
+                    return add();
                 case UNDER:
-                    single.becomeKink(first, second, second);
-                    return add(single);
+                    added.becomeKink(first, second, second);
+                    return add();
                 case DRIFT:
                     reshape(true, true, -first, first);
                     break;
@@ -1177,33 +1382,37 @@ public final class SlopeKeeper {
                     work.bottom += first;
                     break;
                 case AND:
-                    return onTop == null || add(onTop);
+                    if (onTop != null) {
+                        onTop.showOn(added);
+                        return add();
+                    }
+                    break;
                 default:
                     break;
             }
             return !work.isTooMuch();
         }
 
-        private boolean add(Curve other) {
-            if (work.total + other.total > MOST_WEIGHT) {
+        private boolean add() {
+            if (work.total + added.total > MOST_WEIGHT) {
                 return false;
             }
-            int all = work.kinks + other.kinks;
+            int all = work.kinks + added.kinks;
             spare.clear(all);
             int mine = 0;
             int its = 0;
             for (int k = 0; k < all; k++) {
-                if (its >= other.kinks || (mine < work.kinks && work.places[mine] <= other.places[its])) {
-                    spare.append(work.places[mine], work.weights[mine]);
+                if (its >= added.kinks || (mine < work.kinks && work.placeOf(mine) <= added.placeOf(its))) {
+                    spare.append(work.placeOf(mine), work.weightOf(mine));
                     mine++;
                 } else {
-                    spare.append(other.places[its], other.weights[its]);
+                    spare.append(added.placeOf(its), added.weightOf(its));
                     its++;
                 }
             }
-            spare.left = work.left + other.left;
+            spare.left = work.left + added.left;
             int lowest = spare.someLowest();
-            spare.bottom = work.valueAt(lowest) + other.valueAt(lowest);
+            spare.bottom = work.valueAt(lowest) + added.valueAt(lowest);
             swap();
             return !work.isTooMuch();
         }
@@ -1213,10 +1422,10 @@ public final class SlopeKeeper {
             spare.clear(work.kinks + 1);
             int falling = work.left;
             for (int i = 0; i < work.kinks; i++) {
-                int share = Math.min(falling, work.weights[i]);
+                int share = Math.min(falling, work.weightOf(i));
                 falling -= share;
-                spare.append(work.places[i] - down, keepsFalling ? share : 0);
-                spare.append(work.places[i] + up, keepsRising ? work.weights[i] - share : 0);
+                spare.append(work.placeOf(i) - down, keepsFalling ? share : 0);
+                spare.append(work.placeOf(i) + up, keepsRising ? work.weightOf(i) - share : 0);
             }
             spare.left = keepsFalling ? work.left : 0;
             spare.bottom = work.bottom;
@@ -1417,17 +1626,55 @@ public final class SlopeKeeper {
         }
     }
 
-    /** The draws of the years. */
-    private static final class Dice {
-        private int seed;
+    /** Tells steps as a text, of which it keeps no more than its length and the one byte that was asked for. */
+    private static final class Teller {
+        private int wanted;
+        int length;
+        int heard;
 
-        Dice(int seed) {
-            this.seed = seed;
+        void listenFor(int place) {
+            wanted = place;
+            length = 0;
+            heard = 0;
         }
 
-        int draw(int n) {
-            seed = seed * 1103515245 + 12345;
-            return n < 1 ? 0 : (seed >>> 16 & 0x7fff) % n;
+        void putStep(Step step) {
+            if (step == null) {
+                return;
+            }
+            String word = wordOf(step.kind);
+            for (int i = 0; i < word.length(); i++) {
+                put(word.charAt(i));
+            }
+            if (numbersOf(step.kind) >= 1) {
+                putNumber(step.first);
+            }
+            if (numbersOf(step.kind) == 2) {
+                putNumber(step.second);
+            }
+            put(';');
+        }
+
+        private void putNumber(int number) {
+            put(' ');
+            if (number < 0) {
+                put('-');
+            }
+            int rest = Math.abs(number);
+            if (rest >= 100) {
+                put('0' + rest / 100);
+            }
+            if (rest >= 10) {
+                put('0' + rest / 10 % 10);
+            }
+            put('0' + rest % 10);
+        }
+
+        private void put(int sign) {
+            if (length == wanted) {
+                heard = sign;
+            }
+            length++;
         }
     }
 
@@ -1443,10 +1690,9 @@ public final class SlopeKeeper {
         final int[] refused;
 
         State() {
-            Chain empty = new Chain(new Step[0], new int[0], new int[0], new Curve(0));
             chains = new Chain[COSTS];
             for (int cost = 0; cost < COSTS; cost++) {
-                chains[cost] = empty;
+                chains[cost] = new Chain();
             }
             actCosts = new int[MOST_ACTS];
             actChains = new Chain[MOST_ACTS];
@@ -1462,26 +1708,39 @@ public final class SlopeKeeper {
                 dropOldestAct();
             }
             actCosts[acts] = cost;
-            actChains[acts] = chains[cost];
+            actChain(acts).take(chains[cost]);
             acts++;
-            chains[cost] = chain;
+            chains[cost].take(chain);
         }
 
+        /** Most runs have few acts, so that a chain is made when it is first needed. */
+        private Chain actChain(int act) {
+            if (actChains[act] == null) {
+                actChains[act] = new Chain();
+            }
+            return actChains[act];
+        }
+
+        /** Its chain goes to the end, to be used again there. */
         private void dropOldestAct() {
+            Chain dropped = actChain(0);
             for (int i = 1; i < MOST_ACTS; i++) {
                 actCosts[i - 1] = actCosts[i];
                 actChains[i - 1] = actChains[i];
             }
+            actChains[MOST_ACTS - 1] = dropped;
             acts = MOST_ACTS - 1;
         }
 
-        boolean takeBack() {
+        /** The cost whose latest act is undone; NONE without any act. */
+        int takeBack() {
             if (acts <= 0) {
-                return false;
+                return NONE;
             }
             acts--;
-            chains[actCosts[acts]] = actChains[acts];
-            return true;
+            int cost = actCosts[acts];
+            chains[cost].take(actChain(acts));
+            return cost;
         }
 
         boolean holdsNotes(Curve curve) {
@@ -1495,11 +1754,11 @@ public final class SlopeKeeper {
 
         void take(State other) {
             for (int cost = 0; cost < COSTS; cost++) {
-                chains[cost] = other.chains[cost];
+                chains[cost].take(other.chains[cost]);
             }
-            for (int i = 0; i < MOST_ACTS; i++) {
+            for (int i = 0; i < other.acts && i < MOST_ACTS; i++) {
                 actCosts[i] = other.actCosts[i];
-                actChains[i] = other.actChains[i];
+                actChain(i).take(other.actChain(i));
             }
             acts = other.acts;
             for (int i = 0; i < MOST_NOTES; i++) {

@@ -16,6 +16,7 @@ final class Naive {
     static final class Row {
         final int reach;
         final long[] values;
+        private long least = -1;
 
         Row(int reach) {
             this.reach = reach;
@@ -33,8 +34,12 @@ final class Naive {
             return values[(int) x + reach];
         }
 
+        /** Asked only when all values stand. */
         long least() {
-            return Arrays.stream(values).min().getAsLong();
+            if (least < 0) {
+                least = Arrays.stream(values).min().getAsLong();
+            }
+            return least;
         }
 
         long slopeBehind(long x) {

@@ -11,18 +11,10 @@ public final class ReferenceTest {
     private final Due due;
     private final Random random;
     private final boolean far;
+    private final Mirror mirror;
     private final Naive naive;
     private final int reach;
     private final SlopeKeeper keeper = new SlopeKeeper();
-    private List<List<Naive.Step>> costs = new ArrayList<>();
-    private List<Object[]> acts = new ArrayList<>();
-    private List<long[]> noted = new ArrayList<>();
-    private int[] refused = new int[3];
-    private List<List<Naive.Step>> keptCosts;
-    private List<Object[]> keptActs;
-    private List<long[]> keptNoted;
-    private int[] keptRefused;
-    private final List<List<Naive.Row>> rows = new ArrayList<>();
     private final String name;
 
     public static void main(String[] args) {
@@ -42,11 +34,8 @@ public final class ReferenceTest {
         random = new Random(7919L * run + 1);
         name = "run " + run + ": ";
         reach = far ? 5700 : 420;
-        naive = new Naive(reach);
-        for (int cost = 0; cost < 4; cost++) {
-            costs.add(List.of());
-            rows.add(naive.rows(List.of()));
-        }
+        mirror = new Mirror(reach);
+        naive = mirror.naive;
     }
 
     private int below(int n) {
@@ -59,7 +48,7 @@ public final class ReferenceTest {
 
     private String told(int cost) {
         StringBuilder text = new StringBuilder();
-        for (Naive.Step step : costs.get(cost)) {
+        for (Naive.Step step : mirror.steps(cost)) {
             text.append(WORDS[step.kind()]);
             text.append(NUMBERS[step.kind()] > 0 ? " " + step.a() : "");
             text.append(NUMBERS[step.kind()] > 1 ? " " + step.b() : "");
@@ -69,8 +58,7 @@ public final class ReferenceTest {
     }
 
     private Naive.Row row(int cost) {
-        List<Naive.Row> all = rows.get(cost);
-        return all.get(all.size() - 1);
+        return mirror.row(cost);
     }
 
     private Naive.Step step(int cost) {
@@ -90,7 +78,7 @@ public final class ReferenceTest {
         } else if (kind == 8) {
             a = (cost + 1 + below(3)) % 4;
         }
-        return new Naive.Step(kind, a, b, kind == 8 ? row(a) : null);
+        return mirror.step(kind, a, b);
     }
 
     private void go(int calls) {
@@ -106,29 +94,6 @@ public final class ReferenceTest {
         }
     }
 
-    private void act(int cost, List<Naive.Step> steps) {
-        acts.add(new Object[] {cost, costs.get(cost)});
-        if (acts.size() > 40) {
-            acts.remove(0);
-        }
-        set(cost, steps);
-    }
-
-    private void set(int cost, List<Naive.Step> steps) {
-        costs.set(cost, steps);
-        rows.set(cost, naive.rows(steps));
-    }
-
-    /** The steps become the cost's, unless they are too much. */
-    private long tried(int cost, List<Naive.Step> steps) {
-        if (steps == null || naive.rows(steps) == null) {
-            refused[1]++;
-            return SlopeKeeper.NONE;
-        }
-        act(cost, steps);
-        return steps.size();
-    }
-
     /** Only so many steps that all kinks stay in the window, where that is small. */
     private int mostSteps() {
         return far ? 40 : 12;
@@ -140,7 +105,7 @@ public final class ReferenceTest {
         for (int i = 0; i < many; i++) {
             steps.add(step(cost));
         }
-        List<Naive.Step> former = costs.get(cost);
+        int former = mirror.steps(cost).size();
         StringBuilder text = new StringBuilder();
         int[] words = new int[many];
         for (int i = 0; i < many; i++) {
@@ -152,62 +117,45 @@ public final class ReferenceTest {
         if (text.length() > 600) {
             return;
         }
-        int failed = firstTooMuch(steps);
-        if (failed < 0) {
-            act(cost, steps);
-        } else {
-            refused[0]++;
-        }
-        is("text " + text + " in place of " + former.size() + " steps", failed < 0 ? 0 : 4, () -> Due.text(keeper, cost, text.toString()));
+        long want = mirror.text(cost, steps);
+        int failed = mirror.faulty();
+        is("text " + text + " in place of " + former + " steps", want, () -> Due.text(keeper, cost, text.toString()));
         is("fault", failed < 0 ? SlopeKeeper.NONE : words[failed], keeper::fault);
-    }
-
-    private int firstTooMuch(List<Naive.Step> steps) {
-        Naive.Row f = naive.zero();
-        for (int i = 0; i < steps.size(); i++) {
-            f = naive.after(f, steps.get(i));
-            if (f.isTooMuch()) {
-                return i;
-            }
-        }
-        return -1;
     }
 
     private void change() {
         int cost = below(4);
-        List<Naive.Step> steps = new ArrayList<>(costs.get(cost));
+        int size = mirror.steps(cost).size();
         switch (below(9)) {
             case 0:
                 readText(cost);
                 break;
             case 1:
             case 2:
-                if (steps.size() < mostSteps()) {
+                if (size < mostSteps()) {
                     Naive.Step step = step(cost);
-                    steps.add(step);
-                    is("does", tried(cost, steps), () -> keeper.does(cost, step.kind(), step.a(), step.b()));
+                    is("does", mirror.does(cost, step), () -> keeper.does(cost, step.kind(), step.a(), step.b()));
                 }
                 break;
             case 3:
-                if (steps.size() < mostSteps()) {
+                if (size < mostSteps()) {
                     Naive.Step step = step(cost);
-                    int i = below(steps.size() + 1);
-                    steps.add(i, step);
-                    is("puts", tried(cost, steps), () -> keeper.puts(cost, i, step.kind(), step.a(), step.b()));
+                    int i = below(size + 1);
+                    is("puts", mirror.puts(cost, i, step), () -> keeper.puts(cost, i, step.kind(), step.a(), step.b()));
                 }
                 break;
             case 4:
-                if (!steps.isEmpty()) {
-                    int i = below(steps.size());
-                    steps.remove(i);
-                    is("takes", tried(cost, steps), () -> keeper.takes(cost, i));
+                if (size > 0) {
+                    int i = below(size);
+                    is("takes", mirror.takes(cost, i), () -> keeper.takes(cost, i));
                 }
                 break;
             case 5:
-                copy(cost, below(4));
+                int other = below(4);
+                is("copy", mirror.copy(cost, other), () -> keeper.copy(cost, other));
                 break;
             case 6:
-                undo();
+                is("undo", mirror.undo(), keeper::undo);
                 break;
             case 7:
                 note();
@@ -217,62 +165,29 @@ public final class ReferenceTest {
         }
         for (int what = 0; what < 4; what++) {
             int one = what;
-            is("count", costs.get(what).size(), () -> keeper.count(one));
-            is("status", what < 3 ? refused[what] : acts.size(), () -> keeper.count(one < 3 ? 7 + one : 4));
+            is("count", mirror.steps(what).size(), () -> keeper.count(one));
+            is("status", what < 3 ? mirror.refused(what) : mirror.acts(), () -> keeper.count(one < 3 ? 7 + one : 4));
         }
-    }
-
-    private void copy(int cost, int other) {
-        boolean may = cost != other && costs.get(other).stream().noneMatch(s -> s.kind() == 8 && s.a() == cost);
-        is("copy", tried(cost, may ? costs.get(other) : null), () -> keeper.copy(cost, other));
-    }
-
-    @SuppressWarnings("unchecked")
-    private void undo() {
-        long want = acts.size() - 1;
-        if (!acts.isEmpty()) {
-            Object[] act = acts.remove(acts.size() - 1);
-            set((Integer) act[0], (List<Naive.Step>) act[1]);
-        }
-        is("undo", want, keeper::undo);
     }
 
     private void note() {
         if (below(3) == 0) {
-            noted.clear();
+            mirror.forget();
             keeper.forget();
             return;
         }
         int x = below(61) - 30;
         long v = row(0).get(x) + (below(5) == 0 ? 1 : 0);
-        long want = SlopeKeeper.NONE;
-        if (noted.size() < 8) {
-            noted.add(new long[] {x, v});
-            want = noted.size();
-        } else {
-            refused[2]++;
-        }
-        is("note", want, () -> keeper.note(x, v));
+        is("note", mirror.note(x, v), () -> keeper.note(x, v));
     }
 
     private void imageOrRestore() {
         if (random.nextBoolean()) {
             keeper.image();
-            keptCosts = new ArrayList<>(costs);
-            keptActs = new ArrayList<>(acts);
-            keptNoted = new ArrayList<>(noted);
-            keptRefused = refused.clone();
+            mirror.image();
             return;
         }
-        is("restore", keptCosts == null ? 0 : 1, () -> keeper.restore() ? 1 : 0);
-        if (keptCosts != null) {
-            acts = new ArrayList<>(keptActs);
-            noted = new ArrayList<>(keptNoted);
-            refused = keptRefused.clone();
-            for (int cost = 0; cost < 4; cost++) {
-                set(cost, keptCosts.get(cost));
-            }
-        }
+        is("restore", mirror.restore() ? 1 : 0, () -> keeper.restore() ? 1 : 0);
     }
 
     private void ask() {
@@ -347,8 +262,8 @@ public final class ReferenceTest {
     }
 
     private void askPath(int cost, int x) {
-        List<Naive.Step> steps = costs.get(cost);
-        int[] path = Naive.path(steps, rows.get(cost), x);
+        List<Naive.Step> steps = mirror.steps(cost);
+        int[] path = Naive.path(steps, mirror.rows(cost), x);
         int way = 0;
         long all = 0;
         for (int i = 0; i <= steps.size(); i++) {
@@ -380,13 +295,15 @@ public final class ReferenceTest {
             return;
         }
         int set = 1 + below(15);
+        int last = 31 - Integer.numberOfLeadingZeros(set);
         Naive.Row all = null;
-        for (int member = 0; member < 4; member++) {
+        for (int member = 0; member < last; member++) {
             if ((set >> member & 1) == 1) {
                 all = all == null ? row(member) : Naive.joined(all, row(member), 3 * reach);
             }
         }
-        is("shared " + set + " at " + x, all.get(x), () -> keeper.shared(set, x));
+        long want = all == null ? row(last).get(x) : Naive.split(all, row(last), x, 6 * reach);
+        is("shared " + set + " at " + x, want, () -> keeper.shared(set, x));
     }
 
     private void askTwo(int cost, int other, Naive.Row f, Naive.Row g) {
@@ -418,7 +335,7 @@ public final class ReferenceTest {
     }
 
     private void askSteps(int cost) {
-        List<Naive.Step> steps = costs.get(cost);
+        List<Naive.Step> steps = mirror.steps(cost);
         if (far && below(4) != 0) {
             return;
         }
@@ -444,7 +361,7 @@ public final class ReferenceTest {
     }
 
     private void askFits() {
-        List<Naive.Step> steps = costs.get(0);
+        List<Naive.Step> steps = mirror.steps(0);
         if (steps.isEmpty() || (far && below(4) != 0)) {
             return;
         }
@@ -452,8 +369,8 @@ public final class ReferenceTest {
         boolean may = steps.get(i).kind() <= 2;
         for (int what = 0; what < 2; what++) {
             int one = what;
-            is("fits " + i, may ? naive.fits(steps, i, noted, what) : Due.NO_SUCH, () -> keeper.fits(i, one));
-            is("look " + i, may ? naive.look(steps, i, noted, what) : Due.NO_SUCH, () -> keeper.look(i, one));
+            is("fits " + i, may ? naive.fits(steps, i, mirror.noted(), what) : Due.NO_SUCH, () -> keeper.fits(i, one));
+            is("look " + i, may ? naive.look(steps, i, mirror.noted(), what) : Due.NO_SUCH, () -> keeper.look(i, one));
         }
     }
 
@@ -461,7 +378,7 @@ public final class ReferenceTest {
         String text = told(cost);
         is("told", text.length(), () -> keeper.told(cost, SlopeKeeper.NONE));
         is("told " + text, 1, () -> text.equals(Due.told(keeper, cost)) ? 1 : 0);
-        List<Naive.Step> steps = costs.get(cost);
+        List<Naive.Step> steps = mirror.steps(cost);
         for (int i = 0; i < steps.size(); i++) {
             Naive.Step step = steps.get(i);
             int one = i;
