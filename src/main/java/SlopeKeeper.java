@@ -831,12 +831,13 @@ public final class SlopeKeeper {
             bottom = 0;
         }
 
+        /** The row may hold more, of what it was used for before: 0 for what is no kink now. */
         int placeOf(int i) {
-            return i >= 0 && i < row.length ? row[i] >> WEIGHT_BITS : 0;
+            return i >= 0 && i < kinks && i < row.length ? row[i] >> WEIGHT_BITS : 0;
         }
 
         int weightOf(int i) {
-            return i >= 0 && i < row.length ? row[i] & WEIGHT_MASK : 0;
+            return i >= 0 && i < kinks && i < row.length ? row[i] & WEIGHT_MASK : 0;
         }
 
         /** Places must come rising; like ones become one kink. */

@@ -80,6 +80,9 @@ public final class RoomTest {
             shapes.changeShapes();
             shapes.run(STILL_SMALL);
         }
+        RoomTest heavy = new RoomTest("another one, too much on top each time", 0);
+        heavy.refuse();
+        heavy.run(STILL_SMALL);
         RoomTest same = new RoomTest("the same on top again and again", 0);
         same.fill();
         same.repeat();
@@ -418,6 +421,32 @@ public final class RoomTest {
                 ask(0);
             }
         }
+    }
+
+    /** As wide and as heavy as may be, and refused all the same. */
+    private void refuse() {
+        for (int i = 0; i < 24; i++) {
+            does(2, 1, 0, 99);
+            does(3, 2, 500, 99);
+        }
+        drift(2, 5000);
+        for (int i = 0; i < 9; i++) {
+            does(3, 3, 500, 0);
+        }
+        does(1, 8, 2, 0);
+        does(1, 8, 3, 0);
+        for (int i = 0; i < 3; i++) {
+            does(0, 0, 0, 99);
+        }
+        while (!isFull()) {
+            if (mirror.steps(1).size() < 40) {
+                does(1, 1, below(1001) - 500, 1 + below(5));
+            } else {
+                takes(1, 2 + below(38));
+            }
+            does(0, 8, 1, 0);
+        }
+        due.same(name + ": steps", 3, mirror.steps(0).size());
     }
 
     private void ask(int cost) {
