@@ -51,6 +51,10 @@ final class Due {
         return answer == OTHER ? "throws.(another exception)" : Long.toString(answer);
     }
 
+    int asked() {
+        return asked;
+    }
+
     boolean hasWrong() {
         return wrong > 0;
     }
