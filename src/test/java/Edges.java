@@ -43,7 +43,11 @@ abstract class Edges {
         sentence = quote;
         book.quote(part, quote);
         int before = due.asked();
-        test.run();
+        try {
+            test.run();
+        } catch (RuntimeException e) {
+            due.same(where() + " ended by " + e + " at " + e.getStackTrace()[0], 0, 1);
+        }
         due.same(where() + " looks at nothing", 1, due.asked() > before ? 1 : 0);
     }
 
