@@ -863,8 +863,8 @@ public final class SlopeKeeper {
 
         void take(Curve other) {
             clear(other.kinks);
-            System.arraycopy(other.row, 0, row, 0, other.kinks);
-            kinks = other.kinks;
+            kinks = Math.min(other.kinks, Math.min(other.row.length, row.length));
+            System.arraycopy(other.row, 0, row, 0, kinks);
             left = other.left;
             total = other.total;
             bottom = other.bottom;
@@ -1163,7 +1163,7 @@ public final class SlopeKeeper {
                 return;
             }
             size--;
-            for (int i = place; i < size; i++) {
+            for (int i = place; i < size && i + 1 < steps.length; i++) {
                 steps[i] = steps[i + 1];
             }
         }
@@ -1705,6 +1705,9 @@ public final class SlopeKeeper {
         }
 
         void act(int cost, Chain chain) {
+            if (!isCost(cost)) {
+                return;
+            }
             if (acts >= MOST_ACTS) {
                 dropOldestAct();
             }
@@ -1735,7 +1738,7 @@ public final class SlopeKeeper {
 
         /** The cost whose latest act is undone; NONE without any act. */
         int takeBack() {
-            if (acts <= 0) {
+            if (acts <= 0 || acts > MOST_ACTS || !isCost(actCosts[acts - 1])) {
                 return NONE;
             }
             acts--;
